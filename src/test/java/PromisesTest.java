@@ -11,6 +11,30 @@ public final class PromisesTest {
     }
   }
 
+  private interface Call {
+    int answer();
+  }
+
+  /** A call that is refused: just one REFUSAL of its sort more, and nothing else changes. */
+  private static void refused(String call, HedgesAndDitches x, Call made, int want) {
+    int[] before = states(x);
+    due(call, made.answer(), want);
+    int[] after = states(x);
+    int why = want < -1000 ? want + 1000 : want;
+    for (int what = 0; what < before.length; what++) {
+      int more = what == 10 - why ? 1 : 0;
+      due("status(" + what + ") behind " + call, after[what], before[what] + more);
+    }
+  }
+
+  private static int[] states(HedgesAndDitches x) {
+    int[] found = new int[17];
+    for (int what = 0; what < found.length; what++) {
+      found[what] = x.status(what);
+    }
+    return found;
+  }
+
   /** How many REFUSALS of one sort (-2 to -6) there were. */
   private static int refusals(HedgesAndDitches x, int why) {
     return x.status(10 - why);
@@ -79,8 +103,8 @@ public final class PromisesTest {
     for (int s = 0; s < 8; s++) {
       due("holds", x.holds(s), NONE);
     }
-    due("playerOf", x.playerOf(0, 0), -2);
-    due("back", x.back(), -5);
+    refused("playerOf", x, () -> x.playerOf(0, 0), -2);
+    refused("back", x, () -> x.back(), -5);
     due("wipe", x.wipe(), 0);
     due("NONE", NONE, -1);
   }
@@ -90,12 +114,12 @@ public final class PromisesTest {
     due("row(0, 0, 0)", x.row(0, 0, 0), 1);
     due("row(7, 4, 40)", x.row(7, 4, 40), 1);
     due("holds(7)", x.holds(7), 4);
-    due("row(8, 0, 0)", x.row(8, 0, 0), -2);
-    due("row(-1, 0, 0)", x.row(-1, 0, 0), -2);
-    due("row(0, 5, 0)", x.row(0, 5, 0), -2);
-    due("row(0, -1, 0)", x.row(0, -1, 0), -2);
-    due("row(0, 0, 41)", x.row(0, 0, 41), -2);
-    due("row(0, 0, -1)", x.row(0, 0, -1), -2);
+    refused("row(8, 0, 0)", x, () -> x.row(8, 0, 0), -2);
+    refused("row(-1, 0, 0)", x, () -> x.row(-1, 0, 0), -2);
+    refused("row(0, 5, 0)", x, () -> x.row(0, 5, 0), -2);
+    refused("row(0, -1, 0)", x, () -> x.row(0, -1, 0), -2);
+    refused("row(0, 0, 41)", x, () -> x.row(0, 0, 41), -2);
+    refused("row(0, 0, -1)", x, () -> x.row(0, 0, -1), -2);
     due("refusals", refusals(x, -2), 6);
     x.row(1, 2, 3);
     x.set(1, 2, 9);
@@ -123,14 +147,14 @@ public final class PromisesTest {
     due("a byte", x.element(0, 0), -128);
     x.set(4, 0, -1);
     due("a boolean", x.element(4, 0), 1);
-    due("set(8, ..)", x.set(8, 0, 0), -2);
-    due("set(-1, ..)", x.set(-1, 0, 0), -2);
-    due("set at 2", x.set(0, 2, 0), -2);
-    due("set at -1", x.set(0, -1, 0), -2);
-    due("set, NOTHING ahead of BAD i", x.set(7, -1, 0), -4);
+    refused("set(8, ..)", x, () -> x.set(8, 0, 0), -2);
+    refused("set(-1, ..)", x, () -> x.set(-1, 0, 0), -2);
+    refused("set at 2", x, () -> x.set(0, 2, 0), -2);
+    refused("set at -1", x, () -> x.set(0, -1, 0), -2);
+    refused("set, NOTHING ahead of BAD i", x, () -> x.set(7, -1, 0), -4);
     x.player(0, 0);
     x.show(7, 0);
-    due("set, OTHER ahead of BAD i", x.set(7, -1, 0), -3);
+    refused("set, OTHER ahead of BAD i", x, () -> x.set(7, -1, 0), -3);
     due("refusals -2", refusals(x, -2), 4);
     due("refusals -3", refusals(x, -3), 1);
     due("refusals -4", refusals(x, -4), 1);
@@ -148,25 +172,25 @@ public final class PromisesTest {
       due("as they were", x.element(0, i + 1), i + 1);
     }
     due("copy of none at the end", x.copy(0, 1, 5, 3, 0), 0);
-    due("copy too far from", x.copy(0, 1, 3, 0, 3), -2);
-    due("copy too far to", x.copy(0, 1, 0, 1, 3), -2);
-    due("copy of none beyond the end", x.copy(0, 1, 6, 0, 0), -2);
-    due("copy n -1", x.copy(0, 1, 0, 0, -1), -2);
-    due("copy i -1", x.copy(0, 1, -1, 0, 1), -2);
-    due("copy j -1", x.copy(0, 1, 0, -1, 1), -2);
-    due("copy far", x.copy(0, 1, Integer.MAX_VALUE, 0, 2), -2);
-    due("copy much", x.copy(0, 1, 1, 1, Integer.MAX_VALUE), -2);
+    refused("copy too far from", x, () -> x.copy(0, 1, 3, 0, 3), -2);
+    refused("copy too far to", x, () -> x.copy(0, 1, 0, 1, 3), -2);
+    refused("copy of none beyond the end", x, () -> x.copy(0, 1, 6, 0, 0), -2);
+    refused("copy n -1", x, () -> x.copy(0, 1, 0, 0, -1), -2);
+    refused("copy i -1", x, () -> x.copy(0, 1, -1, 0, 1), -2);
+    refused("copy j -1", x, () -> x.copy(0, 1, 0, -1, 1), -2);
+    refused("copy far", x, () -> x.copy(0, 1, Integer.MAX_VALUE, 0, 2), -2);
+    refused("copy much", x, () -> x.copy(0, 1, 1, 1, Integer.MAX_VALUE), -2);
     x.row(2, 3, 3);
-    due("two SORTS ahead of BAD", x.copy(0, 2, -1, 0, 1), -3);
-    due("NOTHING ahead of BAD", x.copy(0, 3, -1, 0, 1), -4);
-    due("NOTHING from", x.copy(3, 0, 0, 0, 0), -4);
+    refused("two SORTS ahead of BAD", x, () -> x.copy(0, 2, -1, 0, 1), -3);
+    refused("NOTHING ahead of BAD", x, () -> x.copy(0, 3, -1, 0, 1), -4);
+    refused("NOTHING from", x, () -> x.copy(3, 0, 0, 0, 0), -4);
     x.player(0, 0);
     x.show(4, 0);
-    due("OTHER ahead of NOTHING", x.copy(3, 4, 0, 0, 0), -3);
-    due("OTHER ahead of NOTHING", x.copy(4, 3, 0, 0, 0), -3);
-    due("OTHER, two PLAYERS", x.copy(4, 4, 0, 0, 0), -3);
-    due("BAD SHELF ahead of OTHER", x.copy(4, 8, 0, 0, 0), -2);
-    due("BAD SHELF ahead of OTHER", x.copy(-1, 4, 0, 0, 0), -2);
+    refused("OTHER ahead of NOTHING", x, () -> x.copy(3, 4, 0, 0, 0), -3);
+    refused("OTHER ahead of NOTHING", x, () -> x.copy(4, 3, 0, 0, 0), -3);
+    refused("OTHER, two PLAYERS", x, () -> x.copy(4, 4, 0, 0, 0), -3);
+    refused("BAD SHELF ahead of OTHER", x, () -> x.copy(4, 8, 0, 0, 0), -2);
+    refused("BAD SHELF ahead of OTHER", x, () -> x.copy(-1, 4, 0, 0, 0), -2);
   }
 
   private static void element() {
@@ -205,13 +229,13 @@ public final class PromisesTest {
     HedgesAndDitches x = told("player 0 3");
     due("show", x.show(0, 0), 1);
     due("holds", x.holds(0), 10);
-    due("show BAD PLAYER", x.show(0, 1), -2);
-    due("show BAD PLAYER", x.show(0, -2), -2);
+    refused("show BAD PLAYER", x, () -> x.show(0, 1), -2);
+    refused("show BAD PLAYER", x, () -> x.show(0, -2), -2);
     due("it still holds", x.holds(0), 10);
     due("show NONE", x.show(0, NONE), 1);
     due("holds", x.holds(0), NONE);
-    due("show BAD SHELF", x.show(8, 0), -2);
-    due("show BAD SHELF", x.show(-1, NONE), -2);
+    refused("show BAD SHELF", x, () -> x.show(8, 0), -2);
+    refused("show BAD SHELF", x, () -> x.show(-1, NONE), -2);
     x.row(1, 0, 4);
     due("show over a ROW", x.show(1, 0), 1);
     due("holds", x.holds(1), 10);
@@ -237,12 +261,12 @@ public final class PromisesTest {
       }
     }
     due("a DRAW in thought", x.status(9), 1);
-    due("says BAD SHELF", x.says(8, 0), -2);
-    due("says BAD KIND", x.says(6, 6), -2);
-    due("says BAD KIND", x.says(0, -1), -2);
-    due("says NOTHING", x.says(6, 0), -4);
+    refused("says BAD SHELF", x, () -> x.says(8, 0), -2);
+    refused("says BAD KIND", x, () -> x.says(6, 6), -2);
+    refused("says BAD KIND", x, () -> x.says(0, -1), -2);
+    refused("says NOTHING", x, () -> x.says(6, 0), -4);
     x.row(7, 0, 0);
-    due("says OTHER", x.says(7, 0), -3);
+    refused("says OTHER", x, () -> x.says(7, 0), -3);
     HedgesAndDitches y = told("size 1 1; player 1 0; player 5 0; hedge 0; hedge 1; hedge 2; hedge 3");
     y.show(0, 0);
     y.show(1, 1);
@@ -261,10 +285,10 @@ public final class PromisesTest {
     due("size(4, 1)", x.size(4, 1), 13);
     due("size(3, 2)", x.size(3, 2), 17);
     due("size(4, 4)", x.size(4, 4), 40);
-    due("size(0, 4)", x.size(0, 4), -2);
-    due("size(5, 4)", x.size(5, 4), -2);
-    due("size(4, 0)", x.size(4, 0), -2);
-    due("size(4, 5)", x.size(4, 5), -2);
+    refused("size(0, 4)", x, () -> x.size(0, 4), -2);
+    refused("size(5, 4)", x, () -> x.size(5, 4), -2);
+    refused("size(4, 0)", x, () -> x.size(4, 0), -2);
+    refused("size(4, 5)", x, () -> x.size(4, 5), -2);
     due("as it was", x.status(11), 40);
     x.move(0);
     x.move(1);
@@ -275,15 +299,15 @@ public final class PromisesTest {
 
   private static void player() {
     HedgesAndDitches x = new HedgesAndDitches();
-    due("player(6, 0)", x.player(6, 0), -2);
-    due("player(-1, 0)", x.player(-1, 0), -2);
-    due("player(0, 10)", x.player(0, 10), -2);
-    due("player(0, -1)", x.player(0, -1), -2);
+    refused("player(6, 0)", x, () -> x.player(6, 0), -2);
+    refused("player(-1, 0)", x, () -> x.player(-1, 0), -2);
+    refused("player(0, 10)", x, () -> x.player(0, 10), -2);
+    refused("player(0, -1)", x, () -> x.player(0, -1), -2);
     for (int p = 0; p < 6; p++) {
       due("player", x.player(p, 9 - p), p);
     }
-    due("player, FULL", x.player(0, 0), -6);
-    due("player, BAD ahead of FULL", x.player(6, 0), -2);
+    refused("player, FULL", x, () -> x.player(0, 0), -6);
+    refused("player, BAD ahead of FULL", x, () -> x.player(6, 0), -2);
     due("refusals", refusals(x, -6), 1);
   }
 
@@ -292,21 +316,21 @@ public final class PromisesTest {
     due("turn(1)", x.turn(1), 0);
     due("turn(1)", x.turn(1), 1);
     due("turn(0)", x.turn(0), 1);
-    due("turn(2)", x.turn(2), -2);
-    due("turn(-1)", x.turn(-1), -2);
+    refused("turn(2)", x, () -> x.turn(2), -2);
+    refused("turn(-1)", x, () -> x.turn(-1), -2);
     due("TURN", x.status(5), 0);
     due("MOVES", x.status(6), 0);
   }
 
   private static void feed() {
     HedgesAndDitches x = new HedgesAndDitches();
-    due("feed(256)", x.feed(256), -2);
-    due("feed(-1)", x.feed(-1), -2);
+    refused("feed(256)", x, () -> x.feed(256), -2);
+    refused("feed(-1)", x, () -> x.feed(-1), -2);
     for (int i = 1; i <= 250; i++) {
       due("feed", x.feed(i % 2 == 0 ? 0 : 255), i);
     }
-    due("feed, FULL", x.feed(0), -6);
-    due("feed, BAD ahead of FULL", x.feed(256), -2);
+    refused("feed, FULL", x, () -> x.feed(0), -6);
+    refused("feed, BAD ahead of FULL", x, () -> x.feed(256), -2);
     due("THE TAPE's size", x.status(8), 250);
   }
 
@@ -402,10 +426,10 @@ public final class PromisesTest {
       due("fieldOf(4, " + what + ")", x.fieldOf(4, what), four[what]);
     }
     due("fieldOf(1, 0)", x.fieldOf(1, 0), 1);
-    due("fieldOf(6, 0)", x.fieldOf(6, 0), -2);
-    due("fieldOf(-1, 0)", x.fieldOf(-1, 0), -2);
-    due("fieldOf(0, 9)", x.fieldOf(0, 9), -2);
-    due("fieldOf(0, -1)", x.fieldOf(0, -1), -2);
+    refused("fieldOf(6, 0)", x, () -> x.fieldOf(6, 0), -2);
+    refused("fieldOf(-1, 0)", x, () -> x.fieldOf(-1, 0), -2);
+    refused("fieldOf(0, 9)", x, () -> x.fieldOf(0, 9), -2);
+    refused("fieldOf(0, -1)", x, () -> x.fieldOf(0, -1), -2);
     due("NONE isn't refused", refusals(x, -2), 4);
     HedgesAndDitches y = told("size 3 3");
     due("no RIM", y.fieldOf(4, 8), 0);
@@ -429,10 +453,10 @@ public final class PromisesTest {
       due("edgeOf(" + s[0] + ", 2)", x.edgeOf(s[0], 2), s[2]);
     }
     due("NONE isn't refused", refusals(x, -2), 0);
-    due("edgeOf(17, 0)", x.edgeOf(17, 0), -2);
-    due("edgeOf(-1, 0)", x.edgeOf(-1, 0), -2);
-    due("edgeOf(0, 3)", x.edgeOf(0, 3), -2);
-    due("edgeOf(0, -1)", x.edgeOf(0, -1), -2);
+    refused("edgeOf(17, 0)", x, () -> x.edgeOf(17, 0), -2);
+    refused("edgeOf(-1, 0)", x, () -> x.edgeOf(-1, 0), -2);
+    refused("edgeOf(0, 3)", x, () -> x.edgeOf(0, 3), -2);
+    refused("edgeOf(0, -1)", x, () -> x.edgeOf(0, -1), -2);
   }
 
   private static void playerOf() {
@@ -440,10 +464,10 @@ public final class PromisesTest {
     due("playerOf(0, 0)", x.playerOf(0, 0), 4);
     due("playerOf(0, 1)", x.playerOf(0, 1), 7);
     due("playerOf(1, 0)", x.playerOf(1, 0), 2);
-    due("playerOf(2, 0)", x.playerOf(2, 0), -2);
-    due("playerOf(-1, 0)", x.playerOf(-1, 0), -2);
-    due("playerOf(0, 2)", x.playerOf(0, 2), -2);
-    due("playerOf(0, -1)", x.playerOf(0, -1), -2);
+    refused("playerOf(2, 0)", x, () -> x.playerOf(2, 0), -2);
+    refused("playerOf(-1, 0)", x, () -> x.playerOf(-1, 0), -2);
+    refused("playerOf(0, 2)", x, () -> x.playerOf(0, 2), -2);
+    refused("playerOf(0, -1)", x, () -> x.playerOf(0, -1), -2);
   }
 
   private static void may() {
@@ -456,7 +480,7 @@ public final class PromisesTest {
     due("may(103)", x.may(103), 1);
     due("a HEDGE beside a DUG FIELD", x.may(8), 1);
     for (int none : new int[] {12, 99, 104, -1, 44, Integer.MIN_VALUE, Integer.MAX_VALUE}) {
-      due("may(" + none + ")", x.may(none), -2);
+      refused("may(" + none + ")", x, () -> x.may(none), -2);
     }
   }
 
@@ -467,12 +491,12 @@ public final class PromisesTest {
     for (int i = 0; i < 4; i++) {
       due("moves(" + i + ")", x.moves(i), all[i]);
     }
-    due("moves(4)", x.moves(4), -5);
-    due("moves(100000)", x.moves(100000), -5);
-    due("moves(-2)", x.moves(-2), -2);
+    refused("moves(4)", x, () -> x.moves(4), -5);
+    refused("moves(100000)", x, () -> x.moves(100000), -5);
+    refused("moves(-2)", x, () -> x.moves(-2), -2);
     read(x, "hedge 0;hedge 2;hedge 3");
     due("over", x.moves(NONE), 0);
-    due("over", x.moves(0), -5);
+    refused("over", x, () -> x.moves(0), -5);
     x.size(4, 4);
     due("most", x.moves(NONE), 56);
     due("moves(55)", x.moves(55), 115);
@@ -490,8 +514,8 @@ public final class PromisesTest {
     read(x, "hedge 6;hedge 7;turn 0;hedge 2;hedge 8;hedge 9;turn 0;hedge 3");
     due("three FIELDS", x.score(0), 3);
     due("the other one's LANE", x.score(1), 1);
-    due("score(2)", x.score(2), -2);
-    due("score(-1)", x.score(-1), -2);
+    refused("score(2)", x, () -> x.score(2), -2);
+    refused("score(-1)", x, () -> x.score(-1), -2);
   }
 
   private static void lead() {
@@ -499,8 +523,8 @@ public final class PromisesTest {
     int his = x.score(0) - x.score(1);
     due("lead(0)", x.lead(0), his);
     due("lead(1)", x.lead(1), -his);
-    due("lead(2)", x.lead(2), -1002);
-    due("lead(-1)", x.lead(-1), -1002);
+    refused("lead(2)", x, () -> x.lead(2), -1002);
+    refused("lead(-1)", x, () -> x.lead(-1), -1002);
     due("refusals", refusals(x, -2), 2);
     HedgesAndDitches y = told("size 1 1;hedge 0;hedge 1;hedge 2;hedge 3");
     due("lead(0)", y.lead(0), -1);
@@ -528,8 +552,8 @@ public final class PromisesTest {
       due("score(1)", x.score(1), b[0] * b[1]);
     }
     HedgesAndDitches x = new HedgesAndDitches();
-    due("lanes(2)", x.lanes(2), -2);
-    due("lanes(-1)", x.lanes(-1), -2);
+    refused("lanes(2)", x, () -> x.lanes(2), -2);
+    refused("lanes(-1)", x, () -> x.lanes(-1), -2);
   }
 
   private static void ditch() {
@@ -537,9 +561,9 @@ public final class PromisesTest {
     due("ditch(0), HEDGES or not", x.ditch(0), bits(0, 1, 4));
     due("ditch(4)", x.ditch(4), bits(0, 1, 4));
     due("ditch(8)", x.ditch(8), bits(8));
-    due("ditch(2)", x.ditch(2), -5);
-    due("ditch(9)", x.ditch(9), -2);
-    due("ditch(-1)", x.ditch(-1), -2);
+    refused("ditch(2)", x, () -> x.ditch(2), -5);
+    refused("ditch(9)", x, () -> x.ditch(9), -2);
+    refused("ditch(-1)", x, () -> x.ditch(-1), -2);
     HedgesAndDitches rows = told("size 3 2;dig 2;dig 3");
     due("the ends of two ROWS", rows.ditch(2), bits(2));
   }
@@ -576,8 +600,8 @@ public final class PromisesTest {
     HedgesAndDitches x = told("size 4 1;hedge 0;hedge 1;hedge 2;hedge 4;hedge 5;hedge 6;hedge 8");
     due("chain(0)", x.chain(0), 3);
     due("chain(1), two HEDGES", x.chain(1), 0);
-    due("chain(4)", x.chain(4), -2);
-    due("chain(-1)", x.chain(-1), -2);
+    refused("chain(4)", x, () -> x.chain(4), -2);
+    refused("chain(-1)", x, () -> x.chain(-1), -2);
     read(x, "hedge 3;hedge 7;hedge 12");
     due("the last is SHUT along with the one ahead of it", x.chain(0), 3);
     due("from the other end", x.chain(3), 3);
@@ -609,9 +633,9 @@ public final class PromisesTest {
     HedgesAndDitches x = told("hedge 0;hedge 2;hedge 6;hedge 1;hedge 3;hedge 8");
     due("two", x.shuts(7), 2);
     due("none", x.shuts(4), 0);
-    due("STUCK", x.shuts(0), -5);
-    due("BAD", x.shuts(12), -2);
-    due("BAD", x.shuts(-1), -2);
+    refused("STUCK", x, () -> x.shuts(0), -5);
+    refused("BAD", x, () -> x.shuts(12), -2);
+    refused("BAD", x, () -> x.shuts(-1), -2);
     due("in thought", x.status(2), 6);
   }
 
@@ -639,8 +663,8 @@ public final class PromisesTest {
     read(x, "hedge 4;hedge 5;hedge 15");
     due("part(4)", x.part(4), bits(4));
     due("part(2)", x.part(2), bits(1, 2));
-    due("part(6)", x.part(6), -2);
-    due("part(-1)", x.part(-1), -2);
+    refused("part(6)", x, () -> x.part(6), -2);
+    refused("part(-1)", x, () -> x.part(-1), -2);
   }
 
   private static void parts() {
@@ -666,16 +690,16 @@ public final class PromisesTest {
     promise = 33;
     due("owned(0)", x.owned(0), bits(1));
     due("owned(1)", x.owned(1), bits(0));
-    due("owned(2)", x.owned(2), -2);
-    due("owned(-1)", x.owned(-1), -2);
+    refused("owned(2)", x, () -> x.owned(2), -2);
+    refused("owned(-1)", x, () -> x.owned(-1), -2);
     promise = 34;
     due("coloured(0)", x.coloured(0), bits(1));
     due("coloured(1)", x.coloured(1), bits(0));
     read(x, "dig 2");
     due("beside a DITCH that DRAINS", x.coloured(0), 0);
     due("not beside it", x.coloured(1), bits(0));
-    due("coloured(2)", x.coloured(2), -2);
-    due("coloured(-1)", x.coloured(-1), -2);
+    refused("coloured(2)", x, () -> x.coloured(2), -2);
+    refused("coloured(-1)", x, () -> x.coloured(-1), -2);
     promise = 33;
     due("owned all the same", x.owned(0), bits(1));
   }
@@ -688,9 +712,9 @@ public final class PromisesTest {
     read(x, "hedge 2");
     due("one has three already", x.gives(3), 1);
     due("one has three and is SHUT, one gets three", x.gives(7), 1);
-    due("STUCK", x.gives(0), -5);
-    due("BAD", x.gives(12), -2);
-    due("BAD", x.gives(-1), -2);
+    refused("STUCK", x, () -> x.gives(0), -5);
+    refused("BAD", x, () -> x.gives(12), -2);
+    refused("BAD", x, () -> x.gives(-1), -2);
   }
 
   private static void gaps() {
@@ -747,15 +771,22 @@ public final class PromisesTest {
       due("after(" + e + ")", x.after(e), afters[e]);
     }
     due("after(100)", x.after(100), 1);
-    due("after(4)", x.after(4), -1002);
-    due("after(101)", x.after(101), -1002);
+    refused("after(4)", x, () -> x.after(4), -1002);
+    refused("after(101)", x, () -> x.after(101), -1002);
     promise = 42;
     due("best", x.best(), 0);
     promise = 43;
     due("worth", x.worth(), 1);
-    read(x, "hedge 0;hedge 1;hedge 2");
+    read(x, "hedge 0;hedge 1");
+    due("to dig turns it", x.worth(), 1);
     promise = 41;
-    due("after(0)", x.after(0), -1005);
+    due("after(2)", x.after(2), -1);
+    due("after(3)", x.after(3), -1);
+    promise = 42;
+    due("best, the last", x.best(), 100);
+    read(x, "hedge 2");
+    promise = 41;
+    refused("after(0)", x, () -> x.after(0), -1005);
     due("after(3)", x.after(3), 1);
     due("after(100)", x.after(100), -1);
     promise = 42;
@@ -764,7 +795,7 @@ public final class PromisesTest {
     due("worth", x.worth(), 1);
     read(x, "hedge 3");
     promise = 41;
-    due("over", x.after(3), -1005);
+    refused("over", x, () -> x.after(3), -1005);
     promise = 42;
     due("over", x.best(), NONE);
     promise = 43;
@@ -772,12 +803,12 @@ public final class PromisesTest {
     due("REFUSALS", refusals(x, -5), 2);
     HedgesAndDitches y = told("size 2 1;hedge 0");
     promise = 41;
-    due("more than 7, BAD first", y.after(7), -1002);
-    due("more than 7", y.after(1), -1005);
+    refused("more than 7, BAD first", y, () -> y.after(7), -1002);
+    refused("more than 7", y, () -> y.after(1), -1005);
     promise = 42;
-    due("more than 7", y.best(), -5);
+    refused("more than 7", y, () -> y.best(), -5);
     promise = 43;
-    due("more than 7", y.worth(), -1005);
+    refused("more than 7", y, () -> y.worth(), -1005);
     read(y, "hedge 1");
     due("just 7", y.worth(), y.after(y.best()));
     due("in thought", y.status(6), 2);
@@ -799,6 +830,12 @@ public final class PromisesTest {
     choices("hedge 0;hedge 6", 1, 1, 100, 1, 100);
     choices("hedge 0;hedge 1;hedge 6", 2, 2, 100, 3, 100);
     choices("size 1 1;hedge 0;hedge 1", 2, 2, 100, 2, 100);
+    choices("size 2 1;hedge 4;hedge 5", 0, 0, 100, 1, 100);
+    choices("size 1 2;hedge 0;hedge 1;hedge 3;hedge 4", 2, 2, 101, 2, 101);
+    choices("size 1 2;hedge 2;hedge 1;hedge 5", 0, 6, 100, 6, 100);
+    choices("size 3 2;hedge 3;hedge 6;hedge 9;hedge 13", 0, 14, 100, 14, 100);
+    choices("size 2 2;hedge 9;hedge 10;hedge 6;hedge 8;hedge 3;hedge 1", 0, 7, 100, 7, 100);
+    choices("size 2 2;hedge 9;hedge 10;hedge 0;hedge 1", 2, 2, 100, 3, 100);
     choices("dig 0;dig 3", 0, 0, 0, 0, 0);
     choices("dig 0", 0, 0, 101, 0, 101);
     choices("size 3 3;dig 0;hedge 1;hedge 13;hedge 14;hedge 4", 0, 0, 102, 0, 102);
@@ -810,8 +847,8 @@ public final class PromisesTest {
     read(x, "dig 5;dig 6;dig 7;dig 8");
     due("RIMMER, none at the RIM", x.choice(1), 0);
     due("DIGGER, the last", x.choice(0), 104);
-    due("BAD", x.choice(2), -2);
-    due("BAD", x.choice(-1), -2);
+    refused("BAD", x, () -> x.choice(2), -2);
+    refused("BAD", x, () -> x.choice(-1), -2);
     HedgesAndDitches y = told("player 5 0");
     int drawn = (1103515245 + 12345 >>> 16) % 16;
     due("CHANCE", y.choice(0), y.moves(drawn));
@@ -835,11 +872,11 @@ public final class PromisesTest {
     read(x, "hedge 3");
     due("MOVES from now on", x.played(0, 0, 0), 3);
     due("in thought", x.status(6), 1);
-    due("BAD", x.played(2, 0, 0), -1002);
-    due("BAD", x.played(0, 2, 0), -1002);
-    due("BAD", x.played(-1, 0, 0), -1002);
-    due("BAD", x.played(0, 0, 3), -1002);
-    due("BAD", x.played(0, 0, -1), -1002);
+    refused("BAD", x, () -> x.played(2, 0, 0), -1002);
+    refused("BAD", x, () -> x.played(0, 2, 0), -1002);
+    refused("BAD", x, () -> x.played(-1, 0, 0), -1002);
+    refused("BAD", x, () -> x.played(0, 0, 3), -1002);
+    refused("BAD", x, () -> x.played(0, 0, -1), -1002);
     read(x, "hedge 0;hedge 1;hedge 2");
     due("over: MOVES", x.played(0, 1, 0), 0);
     due("over: first", x.played(0, 1, 2), NONE);
@@ -862,13 +899,14 @@ public final class PromisesTest {
     int turned = -x.played(0, 1, 1) + x.played(1, 0, 1) - x.played(0, 2, 1) + x.played(2, 0, 1);
     due("TURN of 1", x.wins(0), turned - x.played(0, 3, 1) + x.played(3, 0, 1));
     due("SEED in thought", x.status(9), 1);
-    due("wins(4)", x.wins(4), -1002);
-    due("wins(-1)", x.wins(-1), -1002);
+    refused("wins(4)", x, () -> x.wins(4), -1002);
+    refused("wins(-1)", x, () -> x.wins(-1), -1002);
     due("alone", told("player 1 1").wins(0), 0);
   }
 
   private static void champion() {
-    due("STUCK", new HedgesAndDitches().champion(), -5);
+    HedgesAndDitches none = new HedgesAndDitches();
+    refused("STUCK", none, () -> none.champion(), -5);
     due("of several the first", told("player 0 0;player 0 0;player 0 0").champion(), 0);
     HedgesAndDitches x = told("player 0 0;player 1 0;player 3 0;player 2 3;player 4 3;player 5 0");
     int[] wins = {-2, 4, 6, -2, -2, -4};
@@ -881,6 +919,20 @@ public final class PromisesTest {
     x.size(3, 1);
     due("three win as much", x.champion(), 0);
     due("in thought", x.status(9) * 10 + x.status(6), 10);
+  }
+
+  /** ALIKE by 0 and, told them, by others; by no other. */
+  private static void alikeBy(String text, int... others) {
+    HedgesAndDitches x = told(text);
+    int ways = x.status(0) == x.status(1) ? 8 : 4;
+    for (int t = 0; t < ways; t++) {
+      int want = t == 0 ? 1 : 0;
+      for (int o : others) {
+        want |= o == t ? 1 : 0;
+      }
+      due("alike(" + t + ") of '" + text + "'", x.alike(t), want);
+    }
+    due("likenesses of '" + text + "'", x.likenesses(), 1 + others.length);
   }
 
   private static void alikes() {
@@ -906,8 +958,22 @@ public final class PromisesTest {
     due("DUG", x.alike(4), 1);
     read(x, "dig 1");
     due("DUG one", x.alike(4), 0);
-    read(x, "size 3 3;hedge 0;hedge 18;hedge 8;hedge 9;hedge 11;hedge 21");
-    due("both", x.alike(3), 0);
+    alikeBy("size 2 2;hedge 1;hedge 9", 4);
+    alikeBy("size 2 2;hedge 4;hedge 8", 4);
+    alikeBy("size 2 2;hedge 4;hedge 9", 7);
+    alikeBy("size 3 3;hedge 1;hedge 4", 1);
+    alikeBy("size 3 3;hedge 0;hedge 9", 2);
+    alikeBy("size 3 3;hedge 3;hedge 8", 3);
+    alikeBy("size 3 3;hedge 13;hedge 14", 1);
+    alikeBy("size 3 3;hedge 12;hedge 20", 2);
+    alikeBy("size 3 3;hedge 13;hedge 22", 3);
+    alikeBy("size 3 3;dig 1;dig 3", 4);
+    alikeBy("size 3 3;dig 2;dig 4", 7);
+    alikeBy("size 3 3;dig 5;dig 2;dig 8", 2);
+    alikeBy("size 3 3;dig 6;dig 7;dig 8", 1);
+    alikeBy("size 3 3;dig 1;dig 3;dig 5;dig 7;dig 0;dig 8", 3, 4, 7);
+    alikeBy("size 3 3;hedge 0;hedge 15;hedge 11;hedge 20", 3, 5, 6);
+    alikeBy("size 3 2;dig 1;dig 4;hedge 10;hedge 11", 1);
     read(x, "size 2 1;hedge 0;hedge 2;hedge 4;hedge 1;hedge 3;hedge 6;hedge 5");
     due("both SHUT by one HEDGE", x.alike(1), 1);
     read(x, "size 2 1;hedge 0;hedge 2;hedge 4;hedge 5;hedge 1;turn 0;hedge 3;hedge 6");
@@ -917,9 +983,9 @@ public final class PromisesTest {
     due("OWNERS", x.owned(0) * 10 + x.owned(1), 12);
     due("two OWNERS", x.alike(1), 0);
     due("up and down", x.alike(2), 1);
-    due("BAD, W and H unlike", x.alike(4), -2);
-    due("BAD", x.alike(8), -2);
-    due("BAD", x.alike(-1), -2);
+    refused("BAD, W and H unlike", x, () -> x.alike(4), -2);
+    refused("BAD", x, () -> x.alike(8), -2);
+    refused("BAD", x, () -> x.alike(-1), -2);
     promise = 48;
     due("unlike", x.likenesses(), 2);
   }
@@ -932,14 +998,14 @@ public final class PromisesTest {
     due("the first", x.judge(0, 6), 4);
     due("none", x.judge(0, 0), NONE);
     due("in thought", x.status(2), 0);
-    due("BAD SHELF", x.judge(8, 0), -2);
-    due("BAD n", x.judge(0, -1), -2);
-    due("BAD n", x.judge(7, 41), -2);
-    due("fewer", x.judge(0, 7), -2);
-    due("NOTHING", x.judge(7, 40), -4);
+    refused("BAD SHELF", x, () -> x.judge(8, 0), -2);
+    refused("BAD n", x, () -> x.judge(0, -1), -2);
+    refused("BAD n", x, () -> x.judge(7, 41), -2);
+    refused("fewer", x, () -> x.judge(0, 7), -2);
+    refused("NOTHING", x, () -> x.judge(7, 40), -4);
     x.player(0, 0);
     x.show(7, 0);
-    due("OTHER", x.judge(7, 40), -3);
+    refused("OTHER", x, () -> x.judge(7, 40), -3);
     x.row(1, 3, 1);
     x.set(1, 0, 4294967296L);
     due("a long is no MOVE", x.judge(1, 1), 0);
@@ -959,15 +1025,15 @@ public final class PromisesTest {
     due("ahead of it", x.behind(0, 3), 0);
     x.turn(1);
     due("0 shuts", x.behind(0, 4), 1);
-    due("BAD SHELF", x.behind(-1, 0), -1002);
-    due("BAD n", x.behind(0, 41), -1002);
-    due("fewer", x.behind(0, 5), -1002);
-    due("NOTHING", x.behind(1, 0), -1004);
+    refused("BAD SHELF", x, () -> x.behind(-1, 0), -1002);
+    refused("BAD n", x, () -> x.behind(0, 41), -1002);
+    refused("fewer", x, () -> x.behind(0, 5), -1002);
+    refused("NOTHING", x, () -> x.behind(1, 0), -1004);
     x.player(0, 0);
     x.show(1, 0);
-    due("OTHER", x.behind(1, 0), -1003);
+    refused("OTHER", x, () -> x.behind(1, 0), -1003);
     tell(x, 2, 0, 0);
-    due("WRONG", x.behind(2, 2), -1005);
+    refused("WRONG", x, () -> x.behind(2, 2), -1005);
     due("REFUSALS", refusals(x, -2) * 1000 + refusals(x, -3) * 100 + refusals(x, -4) * 10 + refusals(x, -5), 3111);
     due("in thought", x.status(6), 0);
   }
@@ -977,21 +1043,21 @@ public final class PromisesTest {
   private static void done() {
     HedgesAndDitches x = told("hedge 11");
     tell(x, 0, 0, 2, 6, 7, 11);
-    due("WRONG", x.done(0, 5), -5);
+    refused("WRONG", x, () -> x.done(0, 5), -5);
     due("nothing of it", x.status(2), 1);
     due("MOVES in all", x.done(0, 4), 5);
     due("HEDGES", x.status(2), 5);
     due("OWNER", x.fieldOf(0, 2), 0);
     due("TURN", x.status(5), 1);
-    due("again", x.done(0, 1), -5);
+    refused("again", x, () -> x.done(0, 1), -5);
     due("none", x.done(0, 0), 5);
-    due("BAD", x.done(8, 0), -2);
-    due("BAD", x.done(0, -1), -2);
-    due("fewer", x.done(0, 6), -2);
-    due("NOTHING", x.done(1, 9), -4);
+    refused("BAD", x, () -> x.done(8, 0), -2);
+    refused("BAD", x, () -> x.done(0, -1), -2);
+    refused("fewer", x, () -> x.done(0, 6), -2);
+    refused("NOTHING", x, () -> x.done(1, 9), -4);
     x.player(0, 0);
     x.show(1, 0);
-    due("OTHER", x.done(1, 9), -3);
+    refused("OTHER", x, () -> x.done(1, 9), -3);
   }
 
   private static void move() {
@@ -1002,13 +1068,13 @@ public final class PromisesTest {
     due("MOVES", x.status(6), 7);
     due("to dig", x.move(102), 0);
     due("DUG", x.fieldOf(2, 1), 1);
-    due("DUG already", x.move(102), -5);
-    due("SHUT", x.move(100), -5);
-    due("a HEDGE already", x.move(7), -5);
-    due("BAD", x.move(12), -2);
-    due("BAD", x.move(99), -2);
-    due("BAD", x.move(104), -2);
-    due("BAD", x.move(-1), -2);
+    refused("DUG already", x, () -> x.move(102), -5);
+    refused("SHUT", x, () -> x.move(100), -5);
+    refused("a HEDGE already", x, () -> x.move(7), -5);
+    refused("BAD", x, () -> x.move(12), -2);
+    refused("BAD", x, () -> x.move(99), -2);
+    refused("BAD", x, () -> x.move(104), -2);
+    refused("BAD", x, () -> x.move(-1), -2);
     due("MOVES", x.status(6), 8);
     due("SHUT FIELDS", x.status(4), 2);
   }
@@ -1028,10 +1094,10 @@ public final class PromisesTest {
     due("to the end", x.status(6) - before, made);
     due("over", x.moves(NONE), 0);
     due("over", x.goes(0, 1), 0);
-    due("BAD", x.goes(2, 1), -2);
-    due("BAD", x.goes(-1, 1), -2);
-    due("BAD", x.goes(0, 0), -2);
-    due("BAD", x.goes(0, 41), -2);
+    refused("BAD", x, () -> x.goes(2, 1), -2);
+    refused("BAD", x, () -> x.goes(-1, 1), -2);
+    refused("BAD", x, () -> x.goes(0, 0), -2);
+    refused("BAD", x, () -> x.goes(0, 41), -2);
     x.size(4, 4);
     due("40 of them", x.goes(0, 40), 40);
   }
@@ -1064,8 +1130,8 @@ public final class PromisesTest {
       due("games(1)", x.games(1), gamesInTruth(y, 1));
     }
     HedgesAndDitches x = new HedgesAndDitches();
-    due("BAD", x.games(0), -2);
-    due("BAD", x.games(21), -2);
+    refused("BAD", x, () -> x.games(0), -2);
+    refused("BAD", x, () -> x.games(21), -2);
     due("SEED", x.status(9), 1);
   }
 
@@ -1081,7 +1147,7 @@ public final class PromisesTest {
   private static void imageAndBack() {
     promise = 58;
     HedgesAndDitches x = told("size 3 1;player 1 2;hedge 4;dig 2");
-    due("STUCK", x.back(), -5);
+    refused("STUCK", x, () -> x.back(), -5);
     x.seed(77);
     x.turn(1);
     promise = 57;
