@@ -369,7 +369,7 @@ public final class HedgesAndDitches {
     if (now.isHedged(edge)) {
       return refuse(STUCK);
     }
-    return Integer.bitCount(now.closed(now.hedges | 1L << edge) & ~now.closed(now.hedges));
+    return Integer.bitCount(now.closed(now.hedges | 1L << edge) & ~now.shutFields());
   }
 
   public int calm() {
@@ -446,7 +446,24 @@ public final class HedgesAndDitches {
   }
 
   public int best() {
-    return isNearEnd() ? moveOf(bestSlot()) : refuse(STUCK);
+    if (!isNearEnd()) {
+      return refuse(STUCK);
+    }
+    long rest = now.openSlots();
+    int found = NONE;
+    int most = -ANY_LEAD;
+    for (int i = 0; i < BEST_LIMIT && rest != 0L; i++) {
+      int slot = firstSlot(rest);
+      rest &= rest - 1L;
+      thought.become(now);
+      thought.make(slot);
+      int his = -outcome(thought, -ANY_LEAD, -most, BEST_LIMIT - 1);
+      if (his > most) {
+        most = his;
+        found = slot;
+      }
+    }
+    return moveOf(found);
   }
 
   public int worth() {
@@ -542,9 +559,9 @@ public final class HedgesAndDitches {
     if (!now.isOpen(slot)) {
       return refuse(STUCK);
     }
-    int before = Integer.bitCount(now.closed(now.hedges));
+    int before = now.shutFields();
     now.make(slot);
-    return Integer.bitCount(now.closed(now.hedges)) - before;
+    return Integer.bitCount(now.shutFields() & ~before);
   }
 
   public int goes(int player, int n) {
@@ -611,7 +628,7 @@ public final class HedgesAndDitches {
       case 3:
         return Integer.bitCount(now.dug);
       case 4:
-        return Integer.bitCount(now.closed(now.hedges));
+        return Integer.bitCount(now.shutFields());
       case 5:
         return now.turn;
       case 6:
@@ -795,7 +812,7 @@ public final class HedgesAndDitches {
         wanted = game.digsBelow(amountOf(player), game.touched(game.rimEdges));
         break;
       case CHANCE:
-        return game.drawnSlot();
+        return game.drawnSlot(open);
       default:
         break;
     }
@@ -839,7 +856,7 @@ public final class HedgesAndDitches {
 
   private void endByDraws() {
     for (int i = 0; i < SLOT_LIMIT; i++) {
-      int slot = thought.drawnSlot();
+      int slot = thought.drawnSlot(thought.openSlots());
       if (slot == NONE) {
         break;
       }
@@ -851,24 +868,6 @@ public final class HedgesAndDitches {
 
   private boolean isNearEnd() {
     return Long.bitCount(now.openSlots()) <= BEST_LIMIT;
-  }
-
-  private int bestSlot() {
-    long rest = now.openSlots();
-    int found = NONE;
-    int most = -ANY_LEAD;
-    for (int i = 0; i < BEST_LIMIT && rest != 0L; i++) {
-      int slot = firstSlot(rest);
-      rest &= rest - 1L;
-      thought.become(now);
-      thought.make(slot);
-      int his = -outcome(thought, -ANY_LEAD, -most, BEST_LIMIT - 1);
-      if (his > most) {
-        most = his;
-        found = slot;
-      }
-    }
-    return found;
   }
 
   /**
@@ -1139,35 +1138,32 @@ public final class HedgesAndDitches {
       return (int) (some >>> width) & all;
     }
 
-    int withLeft(long some) {
+    /** FIELDS whose left EDGE (side 0) or right one (side 1) is among some. */
+    int withUpright(long some, int side) {
       int columns = (1 << width) - 1;
       int found = 0;
       for (int r = 0; r < height; r++) {
-        found |= ((int) (some >>> uprights + r * (width + 1)) & columns) << r * width;
+        found |= ((int) (some >>> uprights + r * (width + 1) + side) & columns) << r * width;
       }
       return found;
     }
 
-    int withRight(long some) {
-      return withLeft(some >>> 1);
-    }
-
     /** FIELDS that have an EDGE among some. */
     int touched(long some) {
-      return withAbove(some) | withBelow(some) | withLeft(some) | withRight(some);
+      return withAbove(some) | withBelow(some) | withUpright(some, 0) | withUpright(some, 1);
     }
 
     /** FIELDS that have all four EDGES among some. */
     int closed(long some) {
-      return withAbove(some) & withBelow(some) & withLeft(some) & withRight(some);
+      return withAbove(some) & withBelow(some) & withUpright(some, 0) & withUpright(some, 1);
     }
 
     /** FIELDS that have just three EDGES among some. */
     int withThree(long some) {
       int above = withAbove(some);
       int below = withBelow(some);
-      int left = withLeft(some);
-      int right = withRight(some);
+      int left = withUpright(some, 0);
+      int right = withUpright(some, 1);
       return above & below & (left ^ right) | left & right & (above ^ below);
     }
 
@@ -1175,8 +1171,8 @@ public final class HedgesAndDitches {
     int withTwo(long some) {
       int above = withAbove(some);
       int below = withBelow(some);
-      int left = withLeft(some);
-      int right = withRight(some);
+      int left = withUpright(some, 0);
+      int right = withUpright(some, 1);
       return (above ^ below) & (left ^ right)
           | above & below & ~left & ~right
           | left & right & ~above & ~below;
@@ -1197,8 +1193,8 @@ public final class HedgesAndDitches {
     int beside(int some, long walls) {
       int up = (some & ~withAbove(walls)) >>> width;
       int down = (some & ~withBelow(walls)) << width & all;
-      int left = (some & ~withLeft(walls) & ~leftmost) >>> 1;
-      int right = (some & ~withRight(walls) & ~rightmost) << 1;
+      int left = (some & ~withUpright(walls, 0) & ~leftmost) >>> 1;
+      int right = (some & ~withUpright(walls, 1) & ~rightmost) << 1;
       return up | down | left | right;
     }
 
@@ -1239,7 +1235,7 @@ public final class HedgesAndDitches {
     }
 
     int softFields() {
-      return all & ~dug & ~closed(hedges);
+      return all & ~dug & ~shutFields();
     }
 
     /** The SLOTS of all MOVES that MAY be. */
@@ -1254,9 +1250,8 @@ public final class HedgesAndDitches {
     /** Makes a MOVE that MAY be. */
     void make(int slot) {
       if (slot < DIG_SLOT) {
-        int before = closed(hedges);
         hedges |= 1L << slot;
-        int shut = closed(hedges) & ~before;
+        int shut = closed(hedges) & ~shutFields();
         if (turn == 0) {
           ownedBy0 |= shut;
         } else {
@@ -1280,6 +1275,11 @@ public final class HedgesAndDitches {
     }
 
     // -- whose is what
+
+    /** FIELDS become SHUT by MOVES alone, so those that are SHUT are those that have an OWNER. */
+    int shutFields() {
+      return ownedBy0 | ownedBy1;
+    }
 
     int ownedBy(int p) {
       return p == 0 ? ownedBy0 : ownedBy1;
@@ -1345,8 +1345,8 @@ public final class HedgesAndDitches {
       return n > 0 ? (seed >>> 16) % n : 0;
     }
 
-    int drawnSlot() {
-      long open = openSlots();
+    /** The SLOT of all open ones that a DRAW tells; none is drawn if there are none. */
+    int drawnSlot(long open) {
       return open == 0L ? NONE : slotAt(open, drawBelow(Long.bitCount(open)));
     }
 
