@@ -298,6 +298,13 @@ public final class BoardBoundaryTest {
     t.fault("size 4 4;dig 16", 13);
     t.reads("size 1 1;hedge 0;hedge 1;hedge 2;hedge 3", 5, "size(1, 1) h0 h1 h2 h3");
     t.reads("size 1 1;turn 1;hedge 0;hedge 1;hedge 2;hedge 3", 6, "size(1, 1) turn(1) h0 h1 h2 h3");
+    t.on("");
+    for (String none : new String[] {"", "x", ";", "100", "000", "turn 0", "12"}) {
+      t.fault("hedge " + none, 6);
+    }
+    for (String none : new String[] {"", "x", ";", "100", "000", "turn 0", "4"}) {
+      t.fault("dig " + none, 4);
+    }
     t.on("size(1, 1) h0 h1 h2");
     t.reads("turn 0;hedge 3", 2, "turn(0) h3");
     t.reads("dig 0;hedge 3", 2, "d0 h3");

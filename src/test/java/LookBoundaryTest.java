@@ -729,6 +729,12 @@ public final class LookBoundaryTest {
     t.asks("gives(3)", 0);
     t.on("size(1, 1) h0 h1");
     t.asks("gives(3)", 1);
+    t.on("size(4, 4) h15 h19 h38 h14");
+    t.asks("gives(39)", 0);
+    t.asks("gives(37)", 1);
+    t.asks("gives(18)", 1);
+    t.asks("gives(0)", 0);
+    t.asks("gives(20)", 0);
   }
 
   private static void gaps() {

@@ -292,7 +292,17 @@ public final class ThoughtBoundaryTest {
     t.asks("played(1, 1, 1)", 1);
     t.asks("played(1, 0, 2)", 100);
     t.asks("played(0, 1, 2)", 0);
+    t.asks("played(0, 1, 0)", 5);
+    t.asks("played(0, 1, 1)", 1);
+    t.on("size(1, 1) player(0, 0) player(2, 1) player(4, 9) h0 d0");
+    t.asks("played(0, 1, 0)", 3);
+    t.on("player(0, 0) player(2, 2)");
+    t.asks("played(0, 1, 0)", 14);
+    t.asks("played(1, 0, 0)", 14);
+    t.asks("played(0, 0, 0)", 12);
     t.on("size(1, 1) player(0, 0) player(2, 1) turn(1)");
+    t.asks("played(0, 1, 1)", -1);
+    t.asks("played(1, 0, 1)", -1);
     t.asks("played(0, 0, 1)", 1);
     t.asks("played(1, 1, 1)", -1);
     t.words("PLAYED: a GAME from now on, whoever's TURN it is being one PLAYER, the other the other");
@@ -526,6 +536,10 @@ public final class ThoughtBoundaryTest {
       t.asks("judge(0, 1)", -1);
       t.asks("judge(0, 2)", 1);
     }
+    t.on("size(1, 1) row(0, 3, 1) set(0, 0, 4294967296)");
+    t.asks("judge(0, 1)", 0);
+    t.on("size(1, 1) row(0, 3, 1) set(0, 0, -1)");
+    t.asks("judge(0, 1)", 0);
     t.on("row(0, 0, 1) set(0, 0, 103)");
     t.asks("judge(0, 1)", -1);
     t.on("row(0, 1, 1) set(0, 0, 103)");
